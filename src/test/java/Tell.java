@@ -154,16 +154,17 @@ final class Tell {
         return told(26, x, y, z, list(p, n));
     }
 
-    /** A number of 64 bits, of NODES. */
+    /** A number of 64 bits, of NODES, which use VARIABLE 7. */
     int large(long number) {
-        int high = number((int) (number >> 32));
-        int sum = high;
-        for (int i = 0; i < 32; i++) {
-            sum = plus(sum, sum);
+        int get = get(7);
+        int shifted = set(7, plus(get, get));
+        for (int i = 0; i < 5; i++) {
+            shifted = then(shifted, shifted);
         }
         long low = number & 0xffffffffL;
         int half = number((int) (low / 2));
-        return plus(plus(sum, half), plus(half, number((int) (low % 2))));
+        int lower = plus(plus(half, half), number((int) (low % 2)));
+        return then(set(7, number((int) (number >> 32))), then(shifted, plus(get, lower)));
     }
 
     /** Works a NODE that is to come to a number. */
