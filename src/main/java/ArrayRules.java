@@ -117,9 +117,9 @@ public final class ArrayRules {
         static final int EACH = 21, VARIED = 22, THEN = 23, IF = 24, CATCH = 25, MOVE = 26;
     }
 
-    /** The numbers with which a NODE FAILS; 0 is none of them. */
+    /** The numbers with which a NODE FAILS. */
     private static final class Fails {
-        static final int NOT = 0, ON_NULL = 1, NO_ELEMENT = 2, NOT_SUB = 3, SIZE_BELOW_0 = 4;
+        static final int ON_NULL = 1, NO_ELEMENT = 2, NOT_SUB = 3, SIZE_BELOW_0 = 4;
         static final int CAST = 5, NO_ROOM = 6, TOLD_TO = 7, OVER_0 = 8, WRONG_KIND = 9;
         static final int TOO_LONG = 10;
     }
@@ -210,7 +210,7 @@ public final class ArrayRules {
                 // The sign of 32 bits goes on to all 64.
                 return (int) layOut(real, FLOAT_PLACES, FLOAT_BIAS, 1L << 31);
             }
-            return layOut(real, DOUBLE_PLACES, DOUBLE_BIAS, Long.MIN_VALUE);
+            return layOut(real, DOUBLE_PLACES, DOUBLE_BIAS, 1L << 63);
         }
 
         /**
@@ -676,7 +676,6 @@ public final class ArrayRules {
             held.count = 0;
             workedCount = 0;
             takenCount = 0;
-            failed = Fails.NOT;
             failedAt = NONE;
             if (work(node, nodes.count)) {
                 return kind;
@@ -705,16 +704,16 @@ public final class ArrayRules {
                 case Codes.SET: return workSet(node);
                 case Codes.NOTE: return workNote(node);
                 case Codes.FAIL: return fail(Fails.TOLD_TO, node);
-                case Codes.PLUS: return workPlus(node);
-                case Codes.OVER: return workOver(node);
+                case Codes.PLUS:
+                case Codes.OVER: return workWithNumbers(node);
                 case Codes.NEW: return comeToMade(store.addInstance(nodes.a[node]), node);
                 case Codes.MAKE: return workMake(node);
                 case Codes.FILLED: return workFilled(node);
                 case Codes.LENGTH: return workLength(node);
-                case Codes.AT: return workAt(node);
-                case Codes.PUT: return workPut(node);
-                case Codes.ADD: return workAdd(node);
-                case Codes.STEP: return workStep(node);
+                case Codes.AT:
+                case Codes.PUT:
+                case Codes.ADD:
+                case Codes.STEP: return workAtPlace(node);
                 case Codes.COPY: return workCopy(node);
                 case Codes.CAST: return workCast(node);
                 case Codes.IS: return workIs(node);
@@ -817,7 +816,8 @@ public final class ArrayRules {
             return work(nodes.b[node], node);
         }
 
-        private boolean workPlus(int node) {
+        /** PLUS, OVER. */
+        private boolean workWithNumbers(int node) {
             if (!work(nodes.a[node], node) || !wantNumber(node)) {
                 return false;
             }
@@ -825,16 +825,8 @@ public final class ArrayRules {
             if (!work(nodes.b[node], node) || !wantNumber(node)) {
                 return false;
             }
-            return comeToNumber(left + number);
-        }
-
-        private boolean workOver(int node) {
-            if (!work(nodes.a[node], node) || !wantNumber(node)) {
-                return false;
-            }
-            long left = number;
-            if (!work(nodes.b[node], node) || !wantNumber(node)) {
-                return false;
+            if (nodes.codes[node] == Codes.PLUS) {
+                return comeToNumber(left + number);
             }
             return number == 0 ? fail(Fails.OVER_0, node) : comeToNumber(left / number);
         }
@@ -889,7 +881,8 @@ public final class ArrayRules {
             return comeToNumber(store.lengths[(int) number]);
         }
 
-        private boolean workAt(int node) {
+        /** AT, PUT, ADD, STEP: they begin alike, and differ in when they look at the place. */
+        private boolean workAtPlace(int node) {
             if (!work(nodes.a[node], node) || !wantArrayOrNull(node)) {
                 return false;
             }
@@ -898,34 +891,20 @@ public final class ArrayRules {
                 return false;
             }
             int place = (int) number;
-            return wantPlace(array, place, node) && comeToElement(array, place);
+            switch (nodes.codes[node]) {
+                case Codes.AT:
+                    return wantPlace(array, place, node) && comeToElement(array, place);
+                case Codes.PUT:
+                    return work(nodes.c[node], node) && wantPlace(array, place, node)
+                            && put(array, place, node);
+                case Codes.STEP:
+                    return wantPlaceToAdd(array, place, node) && step(array, place);
+                default:
+                    return wantPlaceToAdd(array, place, node) && workAdd(array, place, node);
+            }
         }
 
-        private boolean workPut(int node) {
-            if (!work(nodes.a[node], node) || !wantArrayOrNull(node)) {
-                return false;
-            }
-            int array = (int) number;
-            if (!work(nodes.b[node], node) || !wantNumber(node)) {
-                return false;
-            }
-            int place = (int) number;
-            return work(nodes.c[node], node) && wantPlace(array, place, node)
-                    && put(array, place, node);
-        }
-
-        private boolean workAdd(int node) {
-            if (!work(nodes.a[node], node) || !wantArrayOrNull(node)) {
-                return false;
-            }
-            int array = (int) number;
-            if (!work(nodes.b[node], node) || !wantNumber(node)) {
-                return false;
-            }
-            int place = (int) number;
-            if (!wantPlaceToAdd(array, place, node)) {
-                return false;
-            }
+        private boolean workAdd(int array, int place, int node) {
             long before = store.numberAt(array, place);
             double realBefore = store.realAt(array, place);
             if (!work(nodes.c[node], node) || !wantNumber(node)) {
@@ -935,18 +914,7 @@ public final class ArrayRules {
             return comeToElement(array, place);
         }
 
-        private boolean workStep(int node) {
-            if (!work(nodes.a[node], node) || !wantArrayOrNull(node)) {
-                return false;
-            }
-            int array = (int) number;
-            if (!work(nodes.b[node], node) || !wantNumber(node)) {
-                return false;
-            }
-            int place = (int) number;
-            if (!wantPlaceToAdd(array, place, node)) {
-                return false;
-            }
+        private boolean step(int array, int place) {
             long before = store.numberAt(array, place);
             store.putSum(array, place, before, store.realAt(array, place), 1);
             return comeToNumber(before);
@@ -1066,7 +1034,6 @@ public final class ArrayRules {
             // A VARIED that FAILED within x has left what it held.
             held.count = mark;
             variables.set(nodes.c[node], NUMBER, failed);
-            failed = Fails.NOT;
             failedAt = NONE;
             return work(nodes.b[node], node);
         }

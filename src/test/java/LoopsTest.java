@@ -10,6 +10,7 @@ public final class LoopsTest {
         variedFails();
         variedWithinVaried();
         variedDeepest();
+        variedAfterManyFails();
         move();
         moveWithinOne();
         moveOfReferences();
@@ -165,6 +166,27 @@ public final class LoopsTest {
                 Check.due("20 VARIED: NULL", t.x.element(thing, i), Tell.NONE);
             }
             Check.due("20 VARIED: the one within", t.x.element(thing, 38), thing - 1);
+        }
+    }
+
+    /** What a VARIED held when it FAILED is let go. */
+    private static void variedAfterManyFails() {
+        Tell t = new Tell();
+        int[] ones = new int[40];
+        Arrays.fill(ones, t.number(1));
+        int list = t.list(ones);
+        int failing = t.varied(Tell.array(Tell.INT), t.x.node(10, list, t.fail(), 0, 0));
+        int caught = t.taken(failing, t.number(0), 0);
+        int loop = t.each(t.array(Tell.array(Tell.INT), t.number(40)), 1, caught);
+        for (int i = 0; i < 50; i++) {
+            Check.due("a VARIED that FAILS", t.x.run(failing), Tell.failed(7));
+        }
+        int good = t.varied(Tell.array(Tell.INT), list);
+        t.dueThing("a VARIED after many FAILED", good, 0);
+        t.dueThing("a VARIED after many were taken", t.then(loop, good), 2);
+        for (int i = 0; i < 40; i++) {
+            Check.due("ELEMENT", t.x.element(0, i), 1);
+            Check.due("ELEMENT", t.x.element(2, i), 1);
         }
     }
 
