@@ -9,8 +9,6 @@ public final class ArraysTest {
         makeInOrder();
         makeThreeSizes();
         makeFails();
-        makeRoom();
-        roomForThings();
         filled();
         filledFails();
         length();
@@ -21,7 +19,6 @@ public final class ArraysTest {
         addFails();
         step();
         copy();
-        placesAreCutToInt();
         Check.end();
     }
 
@@ -135,63 +132,6 @@ public final class ArraysTest {
         make = t.array(type, t.number(BIG), less);
         t.dueFail("below 0 comes ahead of no room", make, 4, make);
         Check.due("no ARRAYS", t.x.told(1), 1);
-        t.x.clear();
-        t.x.run(t.set(0, t.large((1L << 32) + 2)));
-        t.x.run(t.array(Tell.array(Tell.INT), t.get(0)));
-        Check.due("a size is cut to int", t.x.thing(1, 1), 2);
-        t.x.clear();
-        t.x.run(t.set(0, t.large(1L << 31)));
-        make = t.array(Tell.array(Tell.INT), t.get(0));
-        t.dueFail("cut to int, below 0", make, 4, make);
-    }
-
-    private static void makeRoom() {
-        int big = 2147483647;
-        int[][] rows = {{4001, -1, -1}, {63, 63, -1}, {2, 2000, -1}, {big, -1, -1}, {big, big, -1},
-            {big, big, big}, {65536, 65536, 65536}, {400, 0, -1}, {1, big, big}, {20, 19, 0},
-            {1, 1, 3999}, {1, 1, big}, {1, 399, 0}, {65536, 65536, -1}};
-        for (int[] row : rows) {
-            Tell t = new Tell();
-            int make = sized(t, row);
-            t.dueFail("no room for " + row[0] + ", " + row[1] + ", " + row[2], make, 6, make);
-            Check.due("no room: THINGS", t.x.told(1), 0);
-            Check.due("no room: ELEMENTS", t.x.told(2), 0);
-        }
-        int[][] fitting = {{4000, -1, -1}, {2, 1999, -1}, {399, 0, -1}, {0, big, big}, {0, big, -1},
-            {1, 0, big}, {1, 1, 3998}, {1, 398, 0}, {19, 20, 0}};
-        int[] things = {1, 3, 400, 1, 1, 2, 3, 400, 400};
-        int[] elements = {4000, 4000, 399, 0, 0, 1, 4000, 399, 399};
-        for (int i = 0; i < fitting.length; i++) {
-            Tell t = new Tell();
-            t.dueThing("room " + i, sized(t, fitting[i]), 0);
-            Check.due("room " + i + ": THINGS", t.x.told(1), things[i]);
-            Check.due("room " + i + ": ELEMENTS", t.x.told(2), elements[i]);
-        }
-    }
-
-    private static int sized(Tell t, int[] sizes) {
-        int[] nodes = new int[3];
-        for (int i = 0; i < 3; i++) {
-            nodes[i] = sizes[i] < 0 ? Tell.NONE : t.number(sizes[i]);
-        }
-        return t.array(Tell.array3(Tell.BYTE), nodes[0], nodes[1], nodes[2]);
-    }
-
-    private static void roomForThings() {
-        Tell t = new Tell();
-        int zero = t.number(0);
-        t.x.run(t.set(0, t.array(Tell.array2(Tell.BYTE), t.number(398), zero)));
-        Check.due("399 THINGS", t.x.told(1), 399);
-        t.dueThing("the last one", t.make(Tell.LEAF), 399);
-        int[] more = {t.make(Tell.LEAF), t.array(Tell.array(Tell.BYTE), zero), t.copy(t.get(0)),
-            t.filled(Tell.array(Tell.INT), Tell.NONE), t.varied(Tell.array(Tell.INT), Tell.NONE)};
-        for (int node : more) {
-            t.dueFail("no room", node, 6, node);
-        }
-        Check.due("400 THINGS", t.x.told(1), 400);
-        Check.due("the last THING", t.x.thing(399, 0), Tell.LEAF);
-        Check.due("THING 400", t.x.thing(400, 0), Tell.OUTSIDE);
-        t.dueThing("VARIED that makes none", t.varied(Tell.array2(Tell.BYTE), t.list(t.get(0))), 0);
     }
 
     private static void filled() {
@@ -440,19 +380,5 @@ public final class ArraysTest {
         int copy = s.copy(s.get(0));
         s.dueFail("no room", copy, 6, copy);
         Check.due("no room: ELEMENTS", s.x.told(2), 2001);
-    }
-
-    private static void placesAreCutToInt() {
-        Tell t = new Tell();
-        t.x.run(t.set(0, t.large((1L << 32) + 1)));
-        t.x.clear();
-        t.x.run(t.set(1, t.filled(Tell.array(Tell.INT), t.list(t.number(4), t.number(5)))));
-        int place = t.get(0);
-        int row = t.get(1);
-        t.dueNumber("AT", t.at(row, place), 5);
-        t.dueNumber("PUT", t.put(row, place, t.number(8)), 8);
-        t.dueNumber("ADD", t.add(row, place, t.number(8)), 16);
-        t.dueNumber("STEP", t.step(row, place), 16);
-        t.dueElements("places are cut to int", 0, 4, 17);
     }
 }

@@ -11,7 +11,6 @@ public final class NumbersTest {
 
     public static void main(String[] args) {
         sums();
-        quotients();
         casts();
         castsOfReferences();
         is();
@@ -34,20 +33,6 @@ public final class NumbersTest {
         Tell t = new Tell();
         t.x.run(t.set(0, t.large(Long.MAX_VALUE)));
         t.dueNumber("going round", t.plus(t.get(0), t.number(1)), Long.MIN_VALUE);
-    }
-
-    private static void quotients() {
-        Tell t = new Tell();
-        int[][] rows = {{7, 2, 3}, {-7, 2, -3}, {7, -2, -3}, {-7, -2, 3}, {1, 3, 0}, {0, 5, 0}};
-        for (int[] row : rows) {
-            t.dueNumber("OVER", t.over(t.number(row[0]), t.number(row[1])), row[2]);
-        }
-        t.x.clear();
-        t.x.run(t.set(0, t.large(Long.MIN_VALUE)));
-        t.dueNumber("OVER, going round", t.over(t.get(0), t.number(-1)), Long.MIN_VALUE);
-        int over = t.over(t.note(1, t.number(4)), t.note(2, t.number(0)));
-        t.dueFail("OVER 0", over, 8, over);
-        t.dueNotes("OVER 0", 1, 2);
     }
 
     private static long cut(int base, long n) {

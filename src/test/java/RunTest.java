@@ -6,9 +6,6 @@ public final class RunTest {
         where();
         worked();
         listsAreNotWorked();
-        mostWorked();
-        mostWorkedIsNotTaken();
-        mostTaken();
         changesStayAfterFails();
         deepest();
         Check.end();
@@ -88,60 +85,6 @@ public final class RunTest {
         t.dueFail("a LIST in a LIST", t.filled(Tell.array(Tell.INT), t.list(list)), 9, list);
         t.dueNumber("taken", t.taken(list, t.number(5), 1), 5);
         Check.due("taken: number", t.x.get(1), 9);
-    }
-
-    /** An EACH that works 3 + 2 * size NODES: EACH, MAKE, NUMBER, and NOTE, NUMBER each time. */
-    private static int loop(Tell t, int size) {
-        return t.each(t.array(Tell.array(Tell.BYTE), t.number(size)), 0, t.note(1, t.number(6)));
-    }
-
-    private static void mostWorked() {
-        Tell t = new Tell();
-        int loop = loop(t, 1498);
-        t.dueNumber("2999 NODES", loop, 1498);
-        Check.due("2999 worked", t.x.worked(), 2999);
-        int exact = t.note(3, loop);
-        t.dueNumber("3000 NODES", exact, 1498);
-        Check.due("3000 worked", t.x.worked(), 3000);
-        int behind = t.number(1);
-        Tell s = new Tell();
-        int more = s.then(loop(s, 1498), s.number(8));
-        s.dueFail("3001 NODES", more, 10, more - 1);
-        Check.due("3001: worked", s.x.worked(), 3000);
-        Check.due("3001: notes", s.x.notes(), 1498);
-        s.dueNumber("the next run counts anew", more - 1, 8);
-        t.dueNumber("the next run counts anew, too", behind, 1);
-        Tell r = new Tell();
-        int list = r.list(r.number(1));
-        int then = r.then(r.note(3, loop(r, 1497)), list);
-        r.dueFail("a LIST is not the next one", then, 9, list);
-        Check.due("a LIST: worked", r.x.worked(), 2999);
-    }
-
-    private static void mostWorkedIsNotTaken() {
-        Tell t = new Tell();
-        int loop = loop(t, 1499);
-        int caught = t.taken(loop, t.number(1), 2);
-        t.dueFail("not taken", caught, 10, loop - 1);
-        Check.due("not taken: VARIABLE", t.x.get(2), 0);
-        Check.due("not taken: worked", t.x.worked(), 3000);
-    }
-
-    private static void mostTaken() {
-        Tell t = new Tell();
-        int fail = t.fail();
-        int caught = t.taken(fail, t.number(3), 1);
-        int forty = t.each(t.array(Tell.array(Tell.BYTE), t.number(40)), 0, caught);
-        t.dueNumber("40 taken", forty, 40);
-        t.dueNumber("40 taken in the next run", forty, 40);
-        int another = t.taken(t.over(fail, fail), t.number(5), 2);
-        int more = t.then(forty, another);
-        t.dueFail("41 taken", more, 10, another);
-        Check.due("41: VARIABLE", t.x.get(2), 0);
-        t.dueNumber("one that does not FAIL", t.then(forty, t.taken(t.number(9), fail, 2)), 9);
-        int outer = t.taken(more, t.number(5), 3);
-        t.dueFail("not taken further out", outer, 10, another);
-        Check.due("not taken further out: VARIABLE", t.x.get(3), 0);
     }
 
     private static void changesStayAfterFails() {

@@ -4,7 +4,6 @@ public final class StateTest {
         newObject();
         clearForgetsNodesAlone();
         notesOfTheLatestRun();
-        notesBeyondThoseKept();
         variables();
         toldCounts();
         objectsAreApart();
@@ -70,21 +69,6 @@ public final class StateTest {
         int fails = t.note(1, t.fail());
         t.dueFail("noted ahead of y", fails, 7, fails - 1);
         t.dueNotes("noted ahead of y", 1);
-    }
-
-    private static void notesBeyondThoseKept() {
-        Tell t = new Tell();
-        int row = t.array(Tell.array(Tell.BYTE), t.number(256));
-        int each = t.each(row, 0, t.note(8, t.number(0)));
-        t.dueNumber("256 notes", each, 256);
-        Check.due("256 notes", t.x.notes(), 256);
-        Check.due("note 255", t.x.note(255), 8);
-        Check.due("note 256", t.x.note(256), Tell.OUTSIDE);
-        int more = t.then(each, t.note(4, t.number(1)));
-        t.dueNumber("257 notes", more, 1);
-        Check.due("257 notes", t.x.notes(), 257);
-        Check.due("note 255 of 257", t.x.note(255), 8);
-        Check.due("note 256 of 257", t.x.note(256), Tell.OUTSIDE);
     }
 
     private static void variables() {

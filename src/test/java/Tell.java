@@ -167,6 +167,14 @@ final class Tell {
         return then(set(7, number((int) (number >> 32))), then(shifted, plus(get, lower)));
     }
 
+    /** A VARIABLE becomes a number of 64 bits; there are no NODES then. */
+    void give(int variable, long number) {
+        x.clear();
+        x.run(set(variable, large(number)));
+        Check.due("VARIABLE " + variable, x.get(variable), number);
+        x.clear();
+    }
+
     /** Works a NODE that is to come to a number. */
     void dueNumber(String what, int node, long want) {
         Check.due(what + ": run", x.run(node), A_NUMBER);
@@ -190,6 +198,12 @@ final class Tell {
         Check.due(what + ": run", x.run(node), failed(with));
         Check.due(what + ": value", x.value(), 0);
         Check.due(what + ": where", x.where(), where);
+    }
+
+    /** How many THINGS and ELEMENTS there are. */
+    void dueTold(String what, int things, int elements) {
+        Check.due(what + ": THINGS", x.told(1), things);
+        Check.due(what + ": ELEMENTS", x.told(2), elements);
     }
 
     void dueNotes(String what, int... want) {
