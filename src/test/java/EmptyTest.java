@@ -141,6 +141,7 @@ public final class EmptyTest {
         t.dueElements("NULL and an ARRAY", 2, Tell.NONE, 0);
         t.dueThing("an ARRAY twice", t.varied(Tell.array(Tell.OBJECT), t.list(get, get)), 3);
         t.dueElements("an ARRAY twice", 3, 0, 0);
+        Check.due("an ARRAY twice: THINGS in it", t.x.thing(3, 2), 2);
         int numbers = t.varied(Tell.array(Tell.INT), t.list(nul, nul));
         t.dueFail("two NULLS among numbers", numbers, 9, numbers);
         t.dueElements("two NULLS among numbers", 4, 0, 0);

@@ -28,6 +28,7 @@ public final class KindsTest {
         casts();
         sameOfTwoKinds();
         aFailGoesAheadOfAKind();
+        aFailOfOtherParts();
         Check.end();
     }
 
@@ -244,5 +245,27 @@ public final class KindsTest {
                 }
             }
         }
+    }
+
+    /** "If one FAILS, what would come behind it is not worked": of the CODES that take any VALUE. */
+    private static void aFailOfOtherParts() {
+        Tell t = withKinds();
+        int fail = t.fail();
+        int note = t.note(1, t.get(A_NUMBER));
+        int[] first = {t.set(6, fail), t.same(fail, note), t.then(fail, note), t.cast(Tell.INT, fail),
+            t.is(Tell.OBJECT, fail), t.filled(INTS, t.list(fail, note)), t.varied(INTS, t.list(fail, note)),
+            t.varied(INTS, t.list(fail))};
+        for (int node : first) {
+            t.dueFail("the first part FAILS", node, 7, fail);
+            t.dueNotes("the first part FAILS");
+        }
+        int[] second = {t.same(note, fail), t.then(note, fail), t.filled(INTS, t.list(note, fail, note)),
+            t.varied(INTS, t.list(note, fail, note))};
+        for (int node : second) {
+            t.dueFail("the second part FAILS", node, 7, fail);
+            t.dueNotes("the second part FAILS", 1);
+        }
+        Check.due("SET of what FAILS", t.x.has(6), Tell.A_NUMBER);
+        Check.due("SET of what FAILS", t.x.get(6), 0);
     }
 }

@@ -10,6 +10,7 @@ public final class LimitsTest {
         for (int failing : new int[] {0, 1, 38, 39, 40, 41, 100}) {
             taken(failing);
         }
+        eachNumberIsTaken();
         takenAnewInEachRun();
         whatDoesNotFailIsNotTaken();
         takenOneWithinTheOther();
@@ -83,6 +84,23 @@ public final class LimitsTest {
         int times = Math.min(failing, 40);
         Check.due(failing + " taken: notes", t.x.notes(), failing <= 40 ? 2 * times : 2 * times + 1);
         Check.due(failing + " taken: VARIABLE", t.x.get(1), failing == 0 ? 0 : 7);
+    }
+
+    /** "VARIABLE c becomes the number with which it does": from the least to the last that is taken. */
+    private static void eachNumberIsTaken() {
+        Tell t = new Tell();
+        int one = t.number(1);
+        int nul = t.nul();
+        int row = t.filled(Tell.array(Tell.LEAF), t.list(nul));
+        int[] failing = {t.length(nul), t.at(row, one), t.put(row, t.number(0), row),
+            t.array(Tell.array(Tell.INT), t.number(-1)), t.cast(Tell.LEAF, row),
+            t.array(Tell.array(Tell.INT), t.number(4001)), t.fail(), t.over(one, t.number(0)), t.plus(one, nul)};
+        for (int i = 0; i < failing.length; i++) {
+            t.dueFail("FAILS " + (i + 1), failing[i], i + 1, failing[i]);
+            t.x.run(t.set(3, nul));
+            t.dueNumber("taken " + (i + 1), t.taken(failing[i], t.get(3), 3), i + 1);
+            Check.due("taken: a number", t.x.has(3), Tell.A_NUMBER);
+        }
     }
 
     private static void takenAnewInEachRun() {
